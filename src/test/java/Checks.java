@@ -1,3 +1,6 @@
+import java.util.HashSet;
+import java.util.Set;
+
 /** Compares answers with those that are due, and ends a test with exit code 1 if one was wrong. */
 final class Checks {
     /** A call whose answer may be an exception. */
@@ -9,10 +12,30 @@ final class Checks {
     static final String ARGUMENT = "throws.IllegalArgumentException";
     static final String INDEX = "throws.IndexOutOfBoundsException";
 
+    private static final Set<String> DUE = new HashSet<>();
+    private static String sentence = "";
+    private static int sentences = 0;
     private static int compared = 0;
     private static int wrong = 0;
 
     private Checks() {
+    }
+
+    /** What is compared from here on tests these words of the document. */
+    static void sentence(String words) {
+        endSentence();
+        sentence = words;
+        sentences++;
+    }
+
+    /** A test that only ever sees one answer has not been on both sides of a boundary. */
+    private static void endSentence() {
+        if (!sentence.isEmpty() && DUE.size() < 2) {
+            wrong++;
+            System.out.println("\"" + sentence + "\" is tested on one side only");
+        }
+        DUE.clear();
+        sentence = "";
     }
 
     static String answerOf(Call call) {
@@ -34,14 +57,20 @@ final class Checks {
 
     static void same(String call, String got, String want) {
         compared++;
+        if (!sentence.isEmpty()) {
+            DUE.add(want);
+        }
         if (!got.equals(want)) {
             wrong++;
-            System.out.println(call + " answered " + got + ", due is " + want);
+            System.out.println((sentence.isEmpty() ? "" : "\"" + sentence + "\": ")
+                    + call + " answered " + got + ", due is " + want);
         }
     }
 
     static void end() {
-        System.out.println(wrong == 0 ? compared + " answers are as due" : wrong + " answers are not as due");
+        endSentence();
+        System.out.println(wrong == 0 ? compared + " answers are as due, to " + sentences + " sentences"
+                : wrong + " answers are not as due");
         if (wrong != 0 || compared == 0) {
             System.exit(1);
         }
