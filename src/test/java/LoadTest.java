@@ -22,6 +22,7 @@ final class LoadTest {
         numberOfGlyphs();
         fontOfBefore();
         fontIsNotTheFile();
+        fontAfterFaults();
         Checks.end();
     }
 
@@ -396,5 +397,46 @@ final class LoadTest {
         Checks.due("loaded", () -> x.load(true), FONT);
         Checks.same("the font is that of a new object", State.ofFont(x), State.ofFont(plain().font()));
         Checks.due("EM", () -> x.font(0), 1000);
+    }
+
+    /** Nothing of a file that was no font stays: each one is broken at another place, then a font is loaded. */
+    private static void fontAfterFaults() {
+        Checks.sentence("LOADING, SUMS being checked or not: how many glyphs the font has; or FILE to GLYPHS");
+        FontOutlines x = new FontOutlines();
+        for (int depth = 0; depth < 5; depth++) {
+            FontMaker maker = deep(depth);
+            byte[] font = maker.file();
+            String due = State.ofFont(maker.font());
+            byte[] whole = maker.glyphs.get(depth);
+            for (int length = 1; length < whole.length; length++) {
+                maker.glyphs.set(depth, Arrays.copyOf(whole, length));
+                loadsAnew(x, maker.file(), FontOutlines.GLYPHS);
+                loadsAnew(x, font, depth + 2);
+                Checks.same("the font after " + length + " bytes of a glyph", State.ofFont(x), due);
+            }
+            for (int fault = 0; fault < 5; fault++) {
+                loadsAnew(x, faulty(1 << fault), -1 - fault);
+                loadsAnew(x, font, depth + 2);
+                Checks.same("the font after " + (-1 - fault), State.ofFont(x), due);
+            }
+        }
+    }
+
+    /** Each glyph is a part of the one before it; that at the depth has two parts, both of them the last glyph. */
+    private static FontMaker deep(int depth) {
+        FontMaker maker = new FontMaker();
+        for (int g = 0; g < depth; g++) {
+            maker.add(FontMaker.composed(FontMaker.part(2, g + 1, g, 1)));
+        }
+        maker.add(FontMaker.composed(FontMaker.part(2 + 32 + 128, depth + 1, 5, 5, 16384, 0, 0, 16384),
+                FontMaker.narrowPart(2, depth + 1, 7, 7)), FontMaker.triangle());
+        maker.longPlaces = true;
+        return maker;
+    }
+
+    private static void loadsAnew(FontOutlines x, byte[] file, int want) {
+        x.cut(0);
+        FontMaker.feed(x, file);
+        Checks.due("load", () -> x.load(true), want);
     }
 }

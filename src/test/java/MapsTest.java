@@ -71,6 +71,8 @@ final class MapsTest {
         }
         map("segments of 3, 1", one(1, SEGMENTS), FONT);
         map("groups of 3, 10", one(10, GROUPS), FONT);
+        // Bytes 3 to 6 are the number 12 here, which must not be taken for the place of a map that is not there.
+        map("no maps, but segments at 12", new Data().u16(0, 0, 0).u8(12).zeros(5).all(SEGMENTS), FontOutlines.FORMS);
     }
 
     /** Two rows; both tell the place of the same map, or of none. */
